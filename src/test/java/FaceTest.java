@@ -27,6 +27,7 @@ public final class FaceTest {
         String code = withoutComments(Files.readString(Path.of("src/main/java/StringNuts.java")));
         words(code);
         loopsWithoutCounter(code);
+        rowsAreMadeOnce(code);
         DUE.end();
     }
 
@@ -98,6 +99,15 @@ public final class FaceTest {
         Matcher calls = Pattern.compile("\\b(Math|Integer|Long)\\.(\\w+)").matcher(code);
         while (calls.find()) {
             DUE.that("of the library " + calls.group(), Set.of("max", "min", "bitCount").contains(calls.group(2)));
+        }
+    }
+
+    /** All calls of a run live in one room: objects and rows are made with the object, none by a call. */
+    private static void rowsAreMadeOnce(String code) {
+        for (String line : code.split("\n")) {
+            if (Pattern.compile("\\bnew\\b").matcher(line).find()) {
+                DUE.that("made with the object: " + line.strip(), line.matches("\\s+(private )?final \\S+ \\w+ = new .*"));
+            }
         }
     }
 
