@@ -844,8 +844,6 @@ public final class StringNuts {
         static final int UNLIKE = 5;
 
         private static final int ALL_ORDERS = 120;
-        /** How many orders there are of the nuts behind each place. */
-        private static final int[] ORDERS_BEHIND = {24, 6, 2, 1, 1};
 
         /** Of the order that was laid last: at which place each nut is. */
         private final int[] places = new int[UNLIKE];
@@ -925,17 +923,32 @@ public final class StringNuts {
 
         /** Lays the order of that index (rising) out in places; answers its row as a number. */
         private int layOrder(int order) {
-            int rest = order;
             int used = 0;
             int number = 0;
             for (int place = 0; place < UNLIKE; place++) {
-                int nut = unusedNut(used, rest / ORDERS_BEHIND[place]);
-                rest %= ORDERS_BEHIND[place];
+                int nut = unusedNut(used, unusedAhead(order, place));
                 places[nut] = place;
                 used |= 1 << nut;
                 number = 10 * number + nut;
             }
             return number;
+        }
+
+        // Behind the first place there are 24 orders of the other nuts, behind the next 6, 2, 1: so an
+        // index, by these, tells how many of the nuts that are left each place passes over.
+        private static int unusedAhead(int order, int place) {
+            switch (place) {
+                case 0:
+                    return order / 24;
+                case 1:
+                    return order / 6 % 4;
+                case 2:
+                    return order / 2 % 3;
+                case 3:
+                    return order % 2;
+                default:
+                    return 0;
+            }
         }
 
         /** The nut that is not used yet and has so many unused ones ahead of it. */

@@ -162,6 +162,7 @@ public final class DaysTest {
         DUE.is("judge(1): why it", told("A>BA0B>B").judge(1), 4);
         DUE.is("judge(2): two broken", told("B>AB>AB>AD>CD>CD>C").judge(2), 2);
         DUE.is("judge(2) of nothing", told("").judge(2), 0);
+        DUE.is("judge(2): none is broken by a swap, a day, baking, a blow", told("A3.A*A>B").judge(2), 0);
         StringNuts x = new StringNuts();
         DUE.doDays(x, "B>AB>AB>A");
         x.say('.');

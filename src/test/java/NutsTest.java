@@ -61,6 +61,16 @@ public final class NutsTest {
         DUE.is("a broken one by nut: the score that it had", x.nut(0, 5, 2, 0), 1);
         DUE.is("A is not broken any more", x.told(1), 0);
         DUE.is("score of C by nut", x.nut(2, 25, 0, 2), 3);
+        StringNuts y = new StringNuts();
+        DUE.doDays(y, "B>AB>AB>A");
+        y.nut(0, 5, 0, 0);
+        DUE.doDays(y, "B>AB>AB>A");
+        DUE.is("in B is A once more", y.told(51), 3);
+        DUE.is("but it counts again", y.told(31), 3);
+        y.nut(0, 50, 0, 0);
+        DUE.doDays(y, "A>BA>BA>B");
+        DUE.is("in A is what was in B, and A", y.told(50), 3);
+        DUE.is("score of A", y.told(30), 4);
     }
 
     private static void say() {
