@@ -1,13 +1,39 @@
+import java.io.IOException;
+import java.nio.file.Files;
+import java.nio.file.Path;
+
 /** Counts and prints the calls whose answer is not the one that is due. */
 final class Due {
+    private static final Path DOCUMENT = Path.of("../shared/DOC.md");
+
     private int wrong;
     private int asked;
+    private int sentences;
+    private String sentence = "";
+
+    /** What is asked from here on is asked for these words of the document. */
+    void sentence(String words) {
+        sentence = "[" + words + "] ";
+        sentences++;
+        if (!isInDocument(words)) {
+            // No failure: new words there want these tests read again, not the class changed.
+            System.out.println("not in the document: " + words);
+        }
+    }
+
+    private static boolean isInDocument(String words) {
+        try {
+            return !Files.exists(DOCUMENT) || Files.readString(DOCUMENT).contains(words);
+        } catch (IOException unreadable) {
+            return true;
+        }
+    }
 
     void is(String call, long got, long want) {
         asked++;
         if (got != want) {
             wrong++;
-            System.out.println(call + " answered " + got + ", due is " + want);
+            System.out.println(sentence + call + " answered " + got + ", due is " + want);
         }
     }
 
@@ -20,7 +46,8 @@ final class Due {
     }
 
     void end() {
-        System.out.println(asked + " answers, " + wrong + " not as due");
+        String heads = sentences == 0 ? "" : sentences + " sentences, ";
+        System.out.println(heads + asked + " answers, " + wrong + " not as due");
         if (wrong != 0) {
             System.exit(1);
         }
@@ -28,6 +55,18 @@ final class Due {
 
     static void say(StringNuts nuts, String text) {
         for (char sign : text.toCharArray()) {
+            nuts.say(sign);
+        }
+    }
+
+    static StringNuts told(String text) {
+        StringNuts nuts = new StringNuts();
+        say(nuts, text);
+        return nuts;
+    }
+
+    static void sayTimes(StringNuts nuts, int sign, int times) {
+        for (int i = 0; i < times; i++) {
             nuts.say(sign);
         }
     }

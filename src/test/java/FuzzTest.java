@@ -2,8 +2,11 @@ import java.util.Random;
 
 /** Long runs of calls, by draws with fixed seeds, compared with the model; all promises at once. */
 public final class FuzzTest {
-    private static final int RUNS = 400;
+    private static final int RUNS = 1200;
+    /** What an object answers behind so many calls is free. */
     private static final int CALLS = 512;
+    /** So many calls are left for all that is told at the end; one draw makes two calls at the most. */
+    private static final int LAST_CALLS = 65;
     private static final int[] ODD = {-1, -2, -7, 4, 5, 10, 11, 60, 99, 100, Integer.MAX_VALUE, Integer.MIN_VALUE};
 
     private final Due due;
@@ -12,6 +15,7 @@ public final class FuzzTest {
     private final Model model = new Model();
     private final String run;
     private String rest = "";
+    private int calls;
 
     private FuzzTest(Due due, int seed) {
         this.due = due;
@@ -23,9 +27,10 @@ public final class FuzzTest {
         Due due = new Due();
         for (int seed = 0; seed < RUNS && due.allRight(); seed++) {
             FuzzTest test = new FuzzTest(due, seed);
-            for (int call = 0; call < CALLS; call++) {
+            for (int draw = 0; draw < CALLS && test.calls + LAST_CALLS <= CALLS; draw++) {
                 test.call();
             }
+            test.toldInAll();
         }
         due.end();
     }
@@ -36,6 +41,7 @@ public final class FuzzTest {
     }
 
     private void is(String call, long got, long want) {
+        calls++;
         due.is(run + call, got, want);
     }
 
@@ -115,11 +121,17 @@ public final class FuzzTest {
             case 1 -> is("image(" + i + ")", nuts.image(i), model.image(i));
             case 2 -> is("restore(" + i + ")", nuts.restore(i), model.restore(i));
             default -> {
-                for (int what = -1; what <= 61; what++) {
-                    is("told(" + what + ")", nuts.told(what), model.told(what));
-                }
+                int what = any(62);
+                is("told(" + what + ")", nuts.told(what), model.told(what));
             }
         }
+    }
+
+    private void toldInAll() {
+        for (int what = -1; what <= 61; what++) {
+            is("told(" + what + ")", nuts.told(what), model.told(what));
+        }
+        due.that(run + "at most 512 calls", calls <= CALLS);
     }
 
     private void fights() {

@@ -125,7 +125,6 @@ public final class NutsTest {
     /** All texts of up to three signs, of signs that stand at the edges of what is allowed. */
     private static void everyShortText() {
         String signs = "@AJK>*./034?!~";
-        StringNuts x = new StringNuts();
         Model model = new Model();
         for (int code = 0; code < 15 * 15 * 15; code++) {
             StringBuilder text = new StringBuilder();
@@ -134,9 +133,8 @@ public final class NutsTest {
                     text.append(signs.charAt(rest % 15 - 1));
                 }
             }
-            Due.sayAnew(x, text.toString());
             model.pad = text;
-            DUE.is("fault() of \"" + text + "\"", x.fault(), model.fault());
+            DUE.is("fault() of \"" + text + "\"", Due.told(text.toString()).fault(), model.fault());
         }
     }
 }

@@ -77,11 +77,9 @@ public final class OrdersTest {
 
     /** All pairs and threes of sights, compared with the model. */
     private static void allSights() {
-        StringNuts x = new StringNuts();
-        Model model = new Model();
         for (int code = 0; code < 25 * 25 * 25; code += 3) {
-            x.forget();
-            model.forget();
+            StringNuts x = new StringNuts();
+            Model model = new Model();
             for (int rest = code, i = 0; i < 3; i++, rest /= 25) {
                 x.harder(rest % 5, rest / 5 % 5);
                 model.harder(rest % 5, rest / 5 % 5);
