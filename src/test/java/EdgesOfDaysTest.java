@@ -82,6 +82,8 @@ public final class EdgesOfDaysTest {
         DUE.sentence("(0 at least)");
         cracksBehind("both nought, one far below it", pair(1, 2, 7, 1), "A>B", 2, 2);
         cracksBehind("both nought, the other way", pair(1, 2, 7, 1), "B>A", 3, 1);
+        cracksBehind("6 with a crack is nought", pair(6, 1, 7, 1), "A>B", 1, 2);
+        cracksBehind("13 with two is nought", pair(13, 2, 7, 1), "A>B", 2, 2);
         cracksBehind("8 with a crack is 1", pair(1, 2, 8, 1), "A>B", 3, 1);
         cracksBehind("14 with two is nought", pair(1, 1, 14, 2), "A>B", 1, 3);
         cracksBehind("15 with two is 1", pair(1, 1, 15, 2), "A>B", 2, 2);

@@ -277,6 +277,10 @@ public final class EdgesOfFightsTest {
         x.nut(7, 1, 1, 3);
         cups(x, 270, 45, 0, 0, 0, 0, 0, 0);
         DUE.is("as they were", x.told(27), 1);
+        // who meets whom in each of the rounds: counted once by a program of its own, all 105 by 3 ways
+        x.nut(4, 1, 1, 0);
+        x.nut(5, 1, 1, 1);
+        cups(x, 141, 65, 28, 18, 51, 12, 0, 0);
     }
 
     private static void whoIsInTheCup() {
