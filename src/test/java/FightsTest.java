@@ -13,6 +13,7 @@ public final class FightsTest {
         cups();
         cupRefusals();
         cupsBySettings();
+        cupsAndRoundsOfSoftOnes();
         DUE.end();
     }
 
@@ -177,6 +178,33 @@ public final class FightsTest {
             }
             DUE.is("all cups are won by one", sum, 315);
         }
+    }
+
+    /** With force left the hardest wins every cup; among soft ones it matters who meets whom. */
+    private static void cupsAndRoundsOfSoftOnes() {
+        Random random = new Random(13);
+        int shared = 0;
+        for (int run = 0; run < 300; run++) {
+            StringNuts x = new StringNuts();
+            Model model = new Model();
+            for (int nut = 0; nut < 10; nut++) {
+                int hard = 1 + random.nextInt(run % 2 == 0 ? 7 : 16);
+                int cracks = random.nextInt(8) == 0 ? 0 : 1 + random.nextInt(2);
+                x.nut(nut, hard, cracks, 0);
+                model.nut(nut, hard, cracks, 0);
+            }
+            int winners = 0;
+            for (int nut = 0; nut < 8; nut++) {
+                int wins = x.cup(nut);
+                DUE.is("cup(" + nut + ") of soft ones, run " + run, wins, model.cup(nut));
+                winners += wins > 0 ? 1 : 0;
+            }
+            shared += winners > 1 ? 1 : 0;
+            for (int nut = 0; nut < 10; nut++) {
+                DUE.is("round(" + nut + ", 1) of soft ones, run " + run, x.round(nut, 1), model.round(nut, 1));
+            }
+        }
+        DUE.that("many of these states have cups of several winners, not " + shared, shared > 50);
     }
 
     private static void setLines(Model model, int[] line, int size, int used, long[] wins) {
